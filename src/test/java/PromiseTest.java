@@ -343,6 +343,7 @@ public final class PromiseTest {
         due("no path to it", () -> ring("c").person(0, 3), 0);
         due("empty row", () -> ring("").person(3, 2), 8);
         due("empty row to it", () -> ring("").person(3, 3), 8);
+        due("along the first step", () -> ring("a").person(1, 3), 1);
         due("all", () -> graph("K8", "").person(7, 2), 128);
         due("no person", () -> x.person(4, 0), INDEX);
         due("negative person", () -> x.person(-1, 0), INDEX);
@@ -435,11 +436,13 @@ public final class PromiseTest {
         due("the last moves", () -> x.find(0, 1, 2), 3);
         due("its cost too", () -> x.step(3, 3), 9);
         due("those before stay", () -> x.find(0, 0, 1), 0);
+        due("the sum of costs", () -> x.about(6), 12);
         due("it is gone", () -> x.find(1, 0, 2), NONE);
         due("no path now", () -> x.cost(0, 2), NONE);
         due("no step", () -> x.removeStep(4), INDEX);
         due("negative", () -> x.removeStep(-1), INDEX);
         due("the last", () -> x.removeStep(3), 3);
+        due("the sum without it", () -> x.about(6), 3);
         for (int steps = 2; steps >= 0; steps--) {
             due("first of " + (steps + 1), () -> x.removeStep(0), steps);
         }
@@ -518,6 +521,10 @@ public final class PromiseTest {
         due("fits", () -> x.cost(0, 3), 3);
         write(x, "K1");
         due("a graph", () -> x.take(), STATE);
+        write(x, "a*");
+        write(x, "a");
+        due("a text behind which a longer one stood", () -> x.take(), 1);
+        due("its * is gone", () -> x.about(4), 0);
     }
 
     private static void undo() {
@@ -582,6 +589,9 @@ public final class PromiseTest {
         due("more than once the same", () -> ring("aA.").cost(0, 1), 3);
         StepPaths z = graph("K80a191a292a393a494a595a696a797a09", "(" + repeat("a", 19) + ")+");
         due("the longest", () -> z.cost(0, 7), 9 * 95);
+        StepPaths y2 = graph("K31a212a09", "a|aa");
+        due("found before all is looked at", () -> y2.cost(1, 2), 1);
+        due("then from another one", () -> y2.cost(0, 0), NONE);
     }
 
     private static void length() {
@@ -673,6 +683,9 @@ public final class PromiseTest {
         due("used twice", () -> graph("K2", "aA").bestNew(0, 0), 1);
         due("nothing helps", () -> graph("K3", "aab").bestNew(0, 0), NONE);
         due("no better is the first", () -> graph("K30a11", "a").bestNew(0, 1), 2);
+        due("as good is no better", () -> graph("K30a11", "a|b").bestNew(0, 1), 2);
+        due("from the last person", () -> graph("K8", "b").bestNew(7, 3), 713);
+        due("to the last person", () -> graph("K8", "D").bestNew(7, 6), 637);
         due("what is there does not count", () -> graph("K20a11" + "0b110c110d11", "a").bestNew(0, 1), 100);
         due("one person", () -> graph("K1", "").bestNew(0, 0), NONE);
         due("all are there", () -> graph("K20a110b110c110d111a011b011c011d01", "").bestNew(0, 0), NONE);
@@ -697,6 +710,8 @@ public final class PromiseTest {
         due("no step 99", () -> x.follow(0, 1, 990L), 1);
         due("another direction", () -> x.follow(0, 2, 12L), 2);
         due("direction 9", () -> x.follow(0, 1, 9L), 1);
+        due("direction 2", () -> x.follow(0, 1, 2L), 1);
+        due("direction 2 from the other one", () -> x.follow(1, 1, 2L), 1);
         due("backwards fits not", () -> x.follow(1, 1, 1L), 1);
         due("the shortcut", () -> x.follow(0, 1, 40L), NONE);
         due("no more behind it", () -> x.follow(0, 2, 40_020L), 2);
@@ -791,6 +806,17 @@ public final class PromiseTest {
         script("c", 1, 90002, 0);
         script("a*", 1, 90502, 0);
         script("a*", 1, 90042, 0);
+        script("(aa|b)a", 1, 90203, NONE);
+        script("(aa|b)a", 1, 90103, 0);
+        script("(aa|b)a", 1, 90403, 0);
+        script("b+B?", 1, 60208, 0);
+        script("b+B?", 1, 60209, NONE);
+        script("b.a", 1, 60311, 0);
+        script("ba", 1, 60310, NONE);
+        script("ba", 1, 60309, 0);
+        script("baaa", 1, 60211, 0);
+        script("baaaa", 1, 60213, NONE);
+        script("baaaa", 1, 60212, 0);
         script("a*", 1, 90004, 0);
         script("a*", 1, 90000, 0);
         script("a*", 1, 0, 0);
@@ -806,6 +832,11 @@ public final class PromiseTest {
         due("sixteen digits", () -> x.runScript(3, 1_000_000_000_000_000L), ARGUMENT);
         due("fifteen digits", () -> x.runScript(3, 999_999_999_999_999L), 0);
         due("a full graph", () -> graph(fullGraph(), "").runScript(2, 12019_20000L), 0);
+        due("step 23 is there", () -> graph(fullGraph(), "").runScript(2, 22300_22300L), 1);
+        due("its cost", () -> graph(fullGraph(), "d").runScript(3, 32304_62104_62103L), 2);
+        due("step 21 is needed", () -> graph(fullGraph(), "b").runScript(2, 92121_92221L), 1);
+        due("turned when the other one is gone", () -> graph(fullGraph(), "b").runScript(3, 21300_42000_92012L), NONE);
+        due("not turned before that", () -> graph(fullGraph(), "b").runScript(1, 42100L), 0);
         due("no people", () -> new StepPaths().runScript(1, 60000L), 0);
     }
 
