@@ -28,8 +28,6 @@ public final class StepPaths {
 
     // No cheapest path is twice at one person in one position, so each best cost is below this.
     private static final int COST_BOUND = MAX_PEOPLE * POSITIONS * MAX_COST;
-    // A going adds 1 to 9 to the cost, so ten rows of what waits, used in turn, never mix two costs.
-    private static final int WHEEL = MAX_COST + 1;
 
     private static final int FINE = 0;
     private static final int NO_SUCH = 1;
@@ -69,8 +67,8 @@ public final class StepPaths {
     // ---- text
 
     public int append(int c) throws IllegalArgumentException, IllegalStateException {
-        refuse(c < 0 || c > 255 ? OUT_OF_RANGE : FINE);
-        refuse(text.size >= MAX_TEXT ? NOT_NOW : FINE);
+        require(c >= 0 && c <= 255, OUT_OF_RANGE);
+        require(text.size < MAX_TEXT, NOT_NOW);
         text.characters[text.size] = (char) c;
         text.size++;
         return text.size;
@@ -87,7 +85,7 @@ public final class StepPaths {
     }
 
     public int load() throws IllegalStateException {
-        refuse(text.readGraph(draft, emptyPattern) == NONE ? FINE : NOT_NOW);
+        require(text.readGraph(draft, emptyPattern) == NONE, NOT_NOW);
         state.copyFrom(draft);
         history.forgetAll();
         for (int i = 0; i < SLOTS; i++) {
@@ -99,7 +97,7 @@ public final class StepPaths {
     // ---- what there is
 
     public int about(int what) throws IllegalArgumentException {
-        refuse(what < 0 || what > 7 ? OUT_OF_RANGE : FINE);
+        require(what >= 0 && what <= 7, OUT_OF_RANGE);
         switch (what) {
             case 0:
                 return state.people;
@@ -111,17 +109,20 @@ public final class StepPaths {
                 return state.pattern.letters;
             case 4:
                 return state.pattern.accepts(BEGINNING) ? 1 : 0;
+            case 5:
+                search.survey(state, 0);
+                return search.pairs;
             case 6:
                 return state.costSum();
             default:
                 search.survey(state, 0);
-                return what == 5 ? search.pairs : search.greatest;
+                return search.greatest;
         }
     }
 
     public int step(int s, int what) throws IndexOutOfBoundsException, IllegalArgumentException {
-        refuse(state.faultOfStep(s));
-        refuse(what < 0 || what > 3 ? OUT_OF_RANGE : FINE);
+        require(state.hasStep(s), NO_SUCH);
+        require(what >= 0 && what <= 3, OUT_OF_RANGE);
         switch (what) {
             case 0:
                 return state.from[s];
@@ -135,8 +136,8 @@ public final class StepPaths {
     }
 
     public int person(int p, int what) throws IndexOutOfBoundsException, IllegalArgumentException {
-        refuse(state.faultOfPerson(p));
-        refuse(what < 0 || what > 3 ? OUT_OF_RANGE : FINE);
+        require(state.hasPerson(p), NO_SUCH);
+        require(what >= 0 && what <= 3, OUT_OF_RANGE);
         switch (what) {
             case 0:
                 return state.countOf(state.from, p);
@@ -150,20 +151,20 @@ public final class StepPaths {
     }
 
     public int find(int p, int k, int q) throws IndexOutOfBoundsException, IllegalArgumentException {
-        refuse(state.faultOfPeople(p, q));
-        refuse(p == q || !isKind(k) ? OUT_OF_RANGE : FINE);
+        require(state.hasPeople(p, q), NO_SUCH);
+        require(p != q && isKind(k), OUT_OF_RANGE);
         return state.indexOf(p, k, q);
     }
 
     public int patternAt(int i) throws IllegalArgumentException {
-        refuse(i < 0 ? OUT_OF_RANGE : FINE);
+        require(i >= 0, OUT_OF_RANGE);
         return i < state.pattern.size ? state.pattern.characters[i] : NONE;
     }
 
     // ---- actions
 
     public int addPerson() throws IllegalStateException {
-        refuse(state.people >= MAX_PEOPLE ? NOT_NOW : FINE);
+        require(state.people < MAX_PEOPLE, NOT_NOW);
         history.remember(state);
         state.people++;
         return state.people - 1;
@@ -177,7 +178,7 @@ public final class StepPaths {
     }
 
     public int removeStep(int s) throws IndexOutOfBoundsException {
-        refuse(state.faultOfStep(s));
+        require(state.hasStep(s), NO_SUCH);
         history.remember(state);
         state.drop(s);
         return state.steps;
@@ -199,20 +200,20 @@ public final class StepPaths {
     }
 
     public int exchange(int k, int l) throws IllegalArgumentException {
-        refuse(isKind(k) && isKind(l) ? FINE : OUT_OF_RANGE);
+        require(isKind(k) && isKind(l), OUT_OF_RANGE);
         history.remember(state);
         return state.swapKinds(k, l);
     }
 
     public int take() throws IllegalStateException {
-        refuse(text.patternError() == NONE ? FINE : NOT_NOW);
+        require(text.patternError() == NONE, NOT_NOW);
         history.remember(state);
         state.pattern = reader.read(text);
         return state.pattern.letters;
     }
 
     public int undo() throws IllegalStateException {
-        refuse(history.count == 0 ? NOT_NOW : FINE);
+        require(history.count > 0, NOT_NOW);
         history.bringBack(state);
         return history.count;
     }
@@ -220,59 +221,53 @@ public final class StepPaths {
     // ---- paths
 
     public int cost(int p, int q) throws IndexOutOfBoundsException {
-        refuse(state.faultOfPeople(p, q));
+        require(state.hasPeople(p, q), NO_SUCH);
         return search.between(state, p, q, 0, COST_BOUND);
     }
 
     public int length(int p, int q) throws IndexOutOfBoundsException {
-        refuse(state.faultOfPeople(p, q));
+        require(state.hasPeople(p, q), NO_SUCH);
         bestPath.aimAt(state, q);
         return bestPath.goingsFrom(p);
     }
 
     public int pathAt(int p, int q, int i) throws IndexOutOfBoundsException, IllegalArgumentException {
-        refuse(state.faultOfPeople(p, q));
-        refuse(i < 0 ? OUT_OF_RANGE : FINE);
+        require(state.hasPeople(p, q), NO_SUCH);
+        require(i >= 0, OUT_OF_RANGE);
         bestPath.aimAt(state, q);
         return bestPath.goingAt(state, p, i);
     }
 
     public int paths(int p, int q, int n) throws IndexOutOfBoundsException, IllegalArgumentException {
-        refuse(state.faultOfPeople(p, q));
-        refuse(n < 0 || n > MAX_COUNTED ? OUT_OF_RANGE : FINE);
-        return state.countFitting(p, BEGINNING, q, n);
+        require(state.hasPeople(p, q), NO_SUCH);
+        require(n >= 0 && n <= MAX_COUNTED, OUT_OF_RANGE);
+        return countFitting(state, p, BEGINNING, q, n);
     }
 
     public int needed(int p, int q) throws IndexOutOfBoundsException {
-        refuse(state.faultOfPeople(p, q));
-        if (search.between(state, p, q, 0, COST_BOUND) == NONE) {
+        require(state.hasPeople(p, q), NO_SUCH);
+        if (!search.finds(state, p, q, 0)) {
             return 0;
         }
         int steps = 0;
         for (int s = 0; s < state.steps; s++) {
-            if (search.between(state, p, q, 1 << s, COST_BOUND) == NONE) {
-                steps |= 1 << s;
-            }
+            steps |= search.finds(state, p, q, 1 << s) ? 0 : 1 << s;
         }
         return steps;
     }
 
     public int bestNew(int p, int q) throws IndexOutOfBoundsException {
-        refuse(state.faultOfPeople(p, q));
+        require(state.hasPeople(p, q), NO_SUCH);
         search.fromPerson(state, p, 0);
         draft.copyFrom(state);
         int best = NONE;
         int bestCost = COST_BOUND;
-        for (int a = 0; a < state.people; a++) {
-            for (int k = 0; k < KINDS; k++) {
-                for (int b = 0; b < state.people; b++) {
-                    if (a != b && state.indexOf(a, k, b) == NONE) {
-                        int cost = costWith(100 * a + 10 * k + b, p, q, bestCost);
-                        if (cost != NONE && cost < bestCost) {
-                            best = 100 * a + 10 * k + b;
-                            bestCost = cost;
-                        }
-                    }
+        for (int step = 0; step < 100 * state.people; step++) {
+            if (isNew(step)) {
+                int cost = costWith(step, p, q, bestCost);
+                if (cost != NONE && cost < bestCost) {
+                    best = step;
+                    bestCost = cost;
                 }
             }
         }
@@ -280,9 +275,9 @@ public final class StepPaths {
     }
 
     public int follow(int p, int n, long row) throws IndexOutOfBoundsException, IllegalArgumentException {
-        refuse(state.faultOfPerson(p));
-        refuse(n < 1 || n > MAX_FOLLOWED ? OUT_OF_RANGE : FINE);
-        refuse(row < 0 || row >= power(1000, n) ? OUT_OF_RANGE : FINE);
+        require(state.hasPerson(p), NO_SUCH);
+        require(n >= 1 && n <= MAX_FOLLOWED, OUT_OF_RANGE);
+        require(row >= 0 && row < power(1000, n), OUT_OF_RANGE);
         int here = p;
         int positions = BEGINNING;
         for (int i = 1; i <= n; i++) {
@@ -304,8 +299,8 @@ public final class StepPaths {
     // ---- scripts, simulations
 
     public int runScript(int n, long script) throws IllegalArgumentException {
-        refuse(n < 1 || n > MAX_COMMANDS ? OUT_OF_RANGE : FINE);
-        refuse(script < 0 || script >= power(100000, n) ? OUT_OF_RANGE : FINE);
+        require(n >= 1 && n <= MAX_COMMANDS, OUT_OF_RANGE);
+        require(script >= 0 && script < power(100000, n), OUT_OF_RANGE);
         draft.copyFrom(state);
         for (int i = 0; i < n; i++) {
             int command = group(script, 100000, n - 1 - i);
@@ -317,7 +312,7 @@ public final class StepPaths {
     }
 
     public int simulate(long seed, int m) throws IllegalArgumentException {
-        refuse(m < 1 || m > MAX_DAYS ? OUT_OF_RANGE : FINE);
+        require(m >= 1 && m <= MAX_DAYS, OUT_OF_RANGE);
         draft.copyFrom(state);
         long x = seed;
         int pairs = 0;
@@ -342,21 +337,25 @@ public final class StepPaths {
     // ---- save slots
 
     public int save(int slot) throws IndexOutOfBoundsException {
-        refuse(isSlot(slot) ? FINE : NO_SUCH);
+        require(isSlot(slot), NO_SUCH);
         slots[slot].copyFrom(state);
         filled[slot] = true;
         return state.steps;
     }
 
     public int restore(int slot) throws IndexOutOfBoundsException, IllegalStateException {
-        refuse(isSlot(slot) ? FINE : NO_SUCH);
-        refuse(filled[slot] ? FINE : NOT_NOW);
+        require(isSlot(slot), NO_SUCH);
+        require(filled[slot], NOT_NOW);
         state.copyFrom(slots[slot]);
         history.forgetAll();
         return state.steps;
     }
 
     // ---- what the methods above share
+
+    private static void require(boolean right, int fault) {
+        refuse(right ? FINE : fault);
+    }
 
     private static void refuse(int fault) {
         if (fault == NO_SUCH) {
@@ -400,15 +399,44 @@ public final class StepPaths {
     }
 
     /**
-     * The cost of the best path with one more step, told as bestNew answers it; NONE also if it is
-     * not below the limit. The draft holds the state, and search what can be reached in it.
+     * How many rows of at most so many goings lead on from a person at some positions to q. Each row
+     * is counted once, as all positions that it can be at are followed together.
      */
-    private int costWith(int newStep, int p, int q, int limit) {
-        int a = newStep / 100;
-        int k = newStep / 10 % 10;
-        int b = newStep % 10;
+    private static int countFitting(State graph, int here, int positions, int q, int goings) {
+        int count = here == q && graph.pattern.accepts(positions) ? 1 : 0;
+        if (goings <= 0) {
+            return count;
+        }
+        int next = graph.pattern.following(positions);
+        for (int s = 0; s < graph.steps; s++) {
+            for (int direction = 0; direction < 2; direction++) {
+                int entered = graph.beginOf(s, direction) == here ? graph.enter(next, s, direction) : 0;
+                if (entered != 0) {
+                    count += countFitting(graph, graph.endOf(s, direction), entered, q, goings - 1);
+                }
+            }
+        }
+        return count;
+    }
+
+    /** Whether the state could have this step, written as bestNew answers it, and has it not. */
+    private boolean isNew(int step) {
+        int a = step / 100;
+        int k = step / 10 % 10;
+        int b = step % 10;
+        return state.hasPeople(a, b) && a != b && isKind(k) && state.indexOf(a, k, b) == NONE;
+    }
+
+    /**
+     * The cost of the best path with one more step; NONE also if it is not below the limit. The draft
+     * holds the state, and search what can be reached in it.
+     */
+    private int costWith(int step, int p, int q, int limit) {
+        int a = step / 100;
+        int k = step / 10 % 10;
+        int b = step % 10;
         // A step that no path can come to use changes nothing, and most of them are such.
-        if (!search.couldEnter(state, a, k) && !search.couldEnter(state, b, KINDS + k)) {
+        if (!search.couldGo(state, a, k) && !search.couldGo(state, b, KINDS + k)) {
             return search.costs[q];
         }
         draft.steps = state.steps;
@@ -486,9 +514,13 @@ public final class StepPaths {
         int d5 = command % 10;
         switch (command / 10000) {
             case 6:
-                return draft.hasPeople(d2, d3) && costsAtMost(d2, d3, 10 * d4 + d5);
+                return draft.hasPeople(d2, d3) && search.between(draft, d2, d3, 0, 10 * d4 + d5 + 1) != NONE;
             case 7:
-                return draft.hasPeople(d2, d3) && d4 == 0 && goesAtMost(d2, d3, d5);
+                if (!draft.hasPeople(d2, d3) || d4 != 0) {
+                    return false;
+                }
+                bestPath.aimAt(draft, d3);
+                return bestPath.goesAtMost(d2, d5);
             case 8:
                 return draft.hasPerson(d2) && d3 == 0 && d4 == 0
                         && Integer.bitCount(search.peopleFrom(draft, d2)) >= d5;
@@ -500,19 +532,8 @@ public final class StepPaths {
         }
     }
 
-    private boolean costsAtMost(int p, int q, int most) {
-        return search.between(draft, p, q, 0, most + 1) != NONE;
-    }
-
-    private boolean goesAtMost(int p, int q, int most) {
-        bestPath.aimAt(draft, q);
-        int goings = bestPath.goingsFrom(p);
-        return goings != NONE && goings <= most;
-    }
-
     private boolean needsStep(int s, int p, int q) {
-        return search.between(draft, p, q, 0, COST_BOUND) != NONE
-                && search.between(draft, p, q, 1 << s, COST_BOUND) == NONE;
+        return search.finds(draft, p, q, 0) && !search.finds(draft, p, q, 1 << s);
     }
 
     /** The text buffer, and what the rules for patterns and graphs say of it. */
@@ -785,18 +806,6 @@ public final class StepPaths {
             return s >= 0 && s < steps;
         }
 
-        int faultOfPerson(int p) {
-            return hasPerson(p) ? FINE : NO_SUCH;
-        }
-
-        int faultOfPeople(int p, int q) {
-            return hasPeople(p, q) ? FINE : NO_SUCH;
-        }
-
-        int faultOfStep(int s) {
-            return hasStep(s) ? FINE : NO_SUCH;
-        }
-
         int faultOfAdding(int p, int k, int q, int c) {
             if (!hasPeople(p, q)) {
                 return NO_SUCH;
@@ -899,27 +908,6 @@ public final class StepPaths {
         int enter(int positions, int s, int direction) {
             return positions & pattern.enteredBy[direction * KINDS + kind[s]];
         }
-
-        /**
-         * How many rows of at most so many goings lead on from a person at some positions to q. Each
-         * row is counted once, as all positions that it can be at are followed together.
-         */
-        int countFitting(int here, int positions, int q, int goings) {
-            int count = here == q && pattern.accepts(positions) ? 1 : 0;
-            if (goings <= 0) {
-                return count;
-            }
-            int next = pattern.following(positions);
-            for (int s = 0; s < steps; s++) {
-                for (int direction = 0; direction < 2; direction++) {
-                    int entered = beginOf(s, direction) == here ? enter(next, s, direction) : 0;
-                    if (entered != 0) {
-                        count += countFitting(endOf(s, direction), entered, q, goings - 1);
-                    }
-                }
-            }
-            return count;
-        }
     }
 
     /** The states that are remembered, in a ring: the oldest one gives its place to the newest. */
@@ -952,6 +940,33 @@ public final class StepPaths {
     }
 
     /**
+     * The positions that wait for their cost to come, by person. A going adds 1 to 9 to the cost, so
+     * ten rows used in turn never mix two costs.
+     */
+    private static final class Wheel {
+        static final int ROWS = MAX_COST + 1;
+
+        private final int[] waiting = new int[ROWS * MAX_PEOPLE];
+
+        void clear() {
+            for (int i = 0; i < ROWS * MAX_PEOPLE; i++) {
+                waiting[i] = 0;
+            }
+        }
+
+        void put(int level, int v, int positions) {
+            waiting[level % ROWS * MAX_PEOPLE + v] |= positions;
+        }
+
+        int draw(int level, int v) {
+            int place = level % ROWS * MAX_PEOPLE + v;
+            int positions = waiting[place];
+            waiting[place] = 0;
+            return positions;
+        }
+    }
+
+    /**
      * The costs of the best paths from one person: goes through all costs upwards, at each with
      * all positions at once that a person is reached at.
      */
@@ -960,7 +975,7 @@ public final class StepPaths {
         int pairs;
         int greatest;
         private final int[] reached = new int[MAX_PEOPLE];
-        private final int[] waiting = new int[WHEEL * MAX_PEOPLE];
+        private final Wheel wheel = new Wheel();
         private int blocked;
 
         /** Finds the costs to all people, without the blocked steps, given as bits. */
@@ -972,6 +987,11 @@ public final class StepPaths {
         int between(State graph, int p, int q, int blockedSteps, int limit) {
             run(graph, p, q, blockedSteps, limit);
             return costs[q];
+        }
+
+        boolean finds(State graph, int p, int q, int blockedSteps) {
+            run(graph, p, q, blockedSteps, COST_BOUND);
+            return costs[q] != NONE;
         }
 
         int peopleFrom(State graph, int p) {
@@ -986,7 +1006,7 @@ public final class StepPaths {
         int peopleTo(State graph, int q) {
             int people = 0;
             for (int p = 0; p < graph.people; p++) {
-                people |= between(graph, p, q, 0, COST_BOUND) == NONE ? 0 : 1 << p;
+                people |= finds(graph, p, q, 0) ? 1 << p : 0;
             }
             return people;
         }
@@ -1005,20 +1025,18 @@ public final class StepPaths {
         }
 
         /** Whether a path of the last search could go on from a person with such a going. */
-        boolean couldEnter(State graph, int v, int going) {
+        boolean couldGo(State graph, int v, int going) {
             return (graph.pattern.following(reached[v]) & graph.pattern.enteredBy[going]) != 0;
         }
 
         private void run(State graph, int p, int q, int blockedSteps, int limit) {
             reset(blockedSteps);
-            waiting[p] = BEGINNING;
+            wheel.put(0, p, BEGINNING);
             int idle = 0;
-            for (int level = 0; level < limit && idle < WHEEL; level++) {
+            for (int level = 0; level < limit && idle < Wheel.ROWS; level++) {
                 idle++;
-                int row = level % WHEEL * MAX_PEOPLE;
                 for (int v = 0; v < graph.people; v++) {
-                    int fresh = waiting[row + v] & ~reached[v];
-                    waiting[row + v] = 0;
+                    int fresh = wheel.draw(level, v) & ~reached[v];
                     if (fresh != 0) {
                         idle = 0;
                         settle(graph, v, fresh, level);
@@ -1032,12 +1050,10 @@ public final class StepPaths {
 
         private void reset(int blockedSteps) {
             blocked = blockedSteps;
+            wheel.clear();
             for (int v = 0; v < MAX_PEOPLE; v++) {
                 costs[v] = NONE;
                 reached[v] = 0;
-            }
-            for (int i = 0; i < WHEEL * MAX_PEOPLE; i++) {
-                waiting[i] = 0;
             }
         }
 
@@ -1048,16 +1064,17 @@ public final class StepPaths {
             }
             int next = graph.pattern.following(fresh);
             for (int s = 0; s < graph.steps; s++) {
-                if ((blocked >> s & 1) == 0) {
-                    int row = (level + graph.cost[s]) % WHEEL * MAX_PEOPLE;
-                    if (graph.from[s] == v) {
-                        waiting[row + graph.to[s]] |= graph.enter(next, s, 0);
-                    }
-                    if (graph.to[s] == v) {
-                        waiting[row + graph.from[s]] |= graph.enter(next, s, 1);
-                    }
+                if (graph.from[s] == v && !isBlocked(s)) {
+                    wheel.put(level + graph.cost[s], graph.to[s], graph.enter(next, s, 0));
+                }
+                if (graph.to[s] == v && !isBlocked(s)) {
+                    wheel.put(level + graph.cost[s], graph.from[s], graph.enter(next, s, 1));
                 }
             }
+        }
+
+        private boolean isBlocked(int s) {
+            return (blocked >> s & 1) != 0;
         }
     }
 
@@ -1073,7 +1090,7 @@ public final class StepPaths {
         // By person and position: UNIT * the cost that is left + the number of goings.
         private final int[] rest = new int[MAX_PEOPLE * POSITIONS];
         private final int[] settled = new int[MAX_PEOPLE];
-        private final int[] waiting = new int[WHEEL * MAX_PEOPLE];
+        private final Wheel wheel = new Wheel();
         private int here;
         private int positions;
         private int left;
@@ -1081,25 +1098,22 @@ public final class StepPaths {
         /** Finds what is left to q from everywhere; ask for paths only after it, in the same graph. */
         void aimAt(State graph, int q) {
             reset();
-            for (int i = 0; i < POSITIONS; i++) {
-                if (graph.pattern.accepts(1 << i)) {
-                    offer(q, i, 0);
-                }
-            }
+            offer(q, graph.pattern.accepting, 0);
             int idle = 0;
-            for (int level = 0; level < COST_BOUND && idle < WHEEL; level++) {
+            for (int level = 0; level < COST_BOUND && idle < Wheel.ROWS; level++) {
                 idle++;
-                int row = level % WHEEL * MAX_PEOPLE;
                 for (int v = 0; v < graph.people; v++) {
-                    int fresh = waiting[row + v] & ~settled[v];
-                    waiting[row + v] = 0;
+                    int fresh = wheel.draw(level, v) & ~settled[v];
                     if (fresh != 0) {
                         idle = 0;
-                        settled[v] |= fresh;
                         settle(graph, v, fresh);
                     }
                 }
             }
+        }
+
+        boolean goesAtMost(int p, int most) {
+            return goingsFrom(p) != NONE && goingsFrom(p) <= most;
         }
 
         int goingsFrom(int p) {
@@ -1123,67 +1137,76 @@ public final class StepPaths {
         }
 
         private void reset() {
+            wheel.clear();
             for (int i = 0; i < MAX_PEOPLE * POSITIONS; i++) {
                 rest[i] = NO_PATH;
             }
             for (int v = 0; v < MAX_PEOPLE; v++) {
                 settled[v] = 0;
             }
-            for (int i = 0; i < WHEEL * MAX_PEOPLE; i++) {
-                waiting[i] = 0;
-            }
         }
 
-        private void offer(int v, int position, int value) {
-            int place = v * POSITIONS + position;
-            if (value < rest[place]) {
-                rest[place] = value;
-                waiting[value / UNIT % WHEEL * MAX_PEOPLE + v] |= 1 << position;
+        private void offer(int v, int places, int value) {
+            int better = 0;
+            for (int i = 0; i < POSITIONS && places >> i != 0; i++) {
+                if ((places >> i & 1) != 0 && value < rest[v * POSITIONS + i]) {
+                    rest[v * POSITIONS + i] = value;
+                    better |= 1 << i;
+                }
             }
+            wheel.put(value / UNIT, v, better);
         }
 
         private void settle(State graph, int v, int fresh) {
-            for (int i = 0; i < POSITIONS; i++) {
+            settled[v] |= fresh;
+            for (int i = 0; i < POSITIONS && fresh >> i != 0; i++) {
                 if ((fresh >> i & 1) != 0) {
-                    for (int s = 0; s < graph.steps; s++) {
-                        for (int direction = 0; direction < 2; direction++) {
-                            if (graph.endOf(s, direction) == v && graph.enter(1 << i, s, direction) != 0) {
-                                int value = rest[v * POSITIONS + i] + UNIT * graph.cost[s] + 1;
-                                offerAll(graph.beginOf(s, direction), graph.pattern.before[i], value);
-                            }
-                        }
-                    }
+                    goBack(graph, v, i);
                 }
             }
         }
 
-        private void offerAll(int v, int before, int value) {
-            for (int i = 0; i < POSITIONS && before >> i != 0; i++) {
-                if ((before >> i & 1) != 0) {
-                    offer(v, i, value);
-                }
-            }
-        }
-
-        /** Goes the first going that leaves exactly what a best path leaves. */
-        private int advance(State graph) {
-            int next = graph.pattern.following(positions);
+        /** Offers what is left before each going that can enter the person at the position. */
+        private void goBack(State graph, int v, int position) {
+            int before = graph.pattern.before[position];
             for (int s = 0; s < graph.steps; s++) {
-                int then = left - UNIT * graph.cost[s] - 1;
+                int value = rest[v * POSITIONS + position] + UNIT * graph.cost[s] + 1;
+                if (graph.to[s] == v && graph.enter(1 << position, s, 0) != 0) {
+                    offer(graph.from[s], before, value);
+                }
+                if (graph.from[s] == v && graph.enter(1 << position, s, 1) != 0) {
+                    offer(graph.to[s], before, value);
+                }
+            }
+        }
+
+        /** Goes on by the first going that leaves exactly what a best path leaves. */
+        private int advance(State graph) {
+            for (int s = 0; s < graph.steps; s++) {
                 for (int direction = 0; direction < 2; direction++) {
-                    if (graph.beginOf(s, direction) == here) {
-                        int end = graph.endOf(s, direction);
-                        int entered = leaving(end, graph.enter(next, s, direction), then);
-                        if (entered != 0) {
-                            here = end;
-                            positions = entered;
-                            left = then;
-                            return 10 * s + direction;
-                        }
+                    if (goes(graph, s, direction)) {
+                        return 10 * s + direction;
                     }
                 }
             }
             return NONE;
+        }
+
+        private boolean goes(State graph, int s, int direction) {
+            if (graph.beginOf(s, direction) != here) {
+                return false;
+            }
+            int end = graph.endOf(s, direction);
+            int then = left - UNIT * graph.cost[s] - 1;
+            int next = graph.enter(graph.pattern.following(positions), s, direction);
+            int entered = leaving(end, next, then);
+            if (entered == 0) {
+                return false;
+            }
+            here = end;
+            positions = entered;
+            left = then;
+            return true;
         }
 
         /** Those of the positions at a person from which exactly so much is left. */
