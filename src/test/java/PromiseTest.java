@@ -1,74 +1,5 @@
 // One section for each promise of the document: ordinary inputs, the edges it names, wrong inputs.
-public final class PromiseTest {
-    private static final long NONE = StepPaths.NONE;
-    private static final String INDEX = "throws.IndexOutOfBoundsException";
-    private static final String ARGUMENT = "throws.IllegalArgumentException";
-    private static final String STATE = "throws.IllegalStateException";
-
-    private static int promise;
-    private static int checked;
-    private static int wrong;
-
-    private interface Call {
-        long answer();
-    }
-
-    private static String answerOf(Call call) {
-        try {
-            return Long.toString(call.answer());
-        } catch (RuntimeException e) {
-            return "throws." + e.getClass().getSimpleName();
-        }
-    }
-
-    private static void due(String what, Call call, String want) {
-        checked++;
-        String got = answerOf(call);
-        if (!got.equals(want)) {
-            wrong++;
-            System.out.println("promise " + promise + ": " + what + " answered " + got + ", due is " + want);
-        }
-    }
-
-    private static void due(String what, Call call, long want) {
-        due(what, call, Long.toString(want));
-    }
-
-    private static void write(StepPaths x, String text) {
-        x.clearText();
-        for (int i = 0; i < text.length(); i++) {
-            x.append(text.charAt(i));
-        }
-    }
-
-    private static StepPaths graph(String graph, String pattern) {
-        StepPaths x = new StepPaths();
-        write(x, graph);
-        x.load();
-        write(x, pattern);
-        x.take();
-        x.clearText();
-        return x;
-    }
-
-    /** Four people in a ring of steps of the kind 0, and a dear shortcut of the kind 1 from 0 to 2. */
-    private static StepPaths ring(String pattern) {
-        return graph("K40a111a212a313a010b29", pattern);
-    }
-
-    /** Three people and 24 steps: all that there can be. */
-    private static String fullGraph() {
-        StringBuilder text = new StringBuilder("K3");
-        for (int p = 0; p < 3; p++) {
-            for (int q = 0; q < 3; q++) {
-                for (int k = 0; p != q && k < 4; k++) {
-                    text.append(p).append((char) ('a' + k)).append(q).append('1');
-                }
-            }
-        }
-        return text.toString();
-    }
-
+public final class PromiseTest extends Check {
     private static String repeat(String part, int times) {
         return part.repeat(times);
     }
@@ -104,14 +35,11 @@ public final class PromiseTest {
         simulate();
         save();
         restore();
-        System.out.println(checked + " answers checked, " + wrong + " wrong");
-        if (wrong != 0) {
-            System.exit(1);
-        }
+        end();
     }
 
     private static void newObject() {
-        promise = 1;
+        under("promise 1");
         StepPaths x = new StepPaths();
         long[] numbers = {0, 0, 0, 0, 1, 0, 0, NONE};
         for (int i = 0; i < numbers.length; i++) {
@@ -129,7 +57,7 @@ public final class PromiseTest {
     }
 
     private static void append() {
-        promise = 2;
+        under("promise 2");
         StepPaths x = new StepPaths();
         due("too low", () -> x.append(-1), ARGUMENT);
         due("too high", () -> x.append(256), ARGUMENT);
@@ -146,7 +74,7 @@ public final class PromiseTest {
     }
 
     private static void clearText() {
-        promise = 3;
+        under("promise 3");
         StepPaths x = ring("a");
         write(x, "abc");
         due("clear", () -> x.clearText(), 3);
@@ -164,7 +92,7 @@ public final class PromiseTest {
     }
 
     private static void errorPositionOfPatterns() {
-        promise = 4;
+        under("promise 4");
         String[] right = {"", "|", "()", "a", ".", "abcdABCD.", "a*|b+|c?", "(a|b)*", "()*", "(|a)?b",
             "(((((((((a)))))))))", repeat("a", 20), repeat("a*", 20), repeat("|", 40), repeat("(", 9) + repeat(")", 9),
             repeat("()", 20), repeat("(a)", 13) + "|", "(a*)*", "a()+", "(()())"};
@@ -251,7 +179,7 @@ public final class PromiseTest {
     }
 
     private static void load() {
-        promise = 5;
+        under("promise 5");
         StepPaths x = ring("a");
         x.save(0);
         x.save(1);
@@ -285,7 +213,7 @@ public final class PromiseTest {
     }
 
     private static void about() {
-        promise = 6;
+        under("promise 6");
         StepPaths x = ring("a+b?|B");
         long[] numbers = {4, 5, 6, 3, 0, 16, 13, 4};
         for (int i = 0; i < numbers.length; i++) {
@@ -311,7 +239,7 @@ public final class PromiseTest {
     }
 
     private static void step() {
-        promise = 7;
+        under("promise 7");
         StepPaths x = graph("K80a19" + "7d62", "");
         long[][] numbers = {{0, 0, 1, 9}, {7, 3, 6, 2}};
         for (int s = 0; s < 2; s++) {
@@ -329,7 +257,7 @@ public final class PromiseTest {
     }
 
     private static void person() {
-        promise = 8;
+        under("promise 8");
         StepPaths x = ring("ab|A");
         due("from 0", () -> x.person(0, 0), 2);
         due("from 2", () -> x.person(2, 0), 1);
@@ -353,7 +281,7 @@ public final class PromiseTest {
     }
 
     private static void find() {
-        promise = 9;
+        under("promise 9");
         StepPaths x = ring("");
         due("a step", () -> x.find(3, 0, 0), 3);
         due("the shortcut", () -> x.find(0, 1, 2), 4);
@@ -370,7 +298,7 @@ public final class PromiseTest {
     }
 
     private static void patternAt() {
-        promise = 10;
+        under("promise 10");
         String text = repeat("(.)", 13) + "|";
         StepPaths x = ring(text);
         for (int i = 0; i < 40; i++) {
@@ -387,7 +315,7 @@ public final class PromiseTest {
     }
 
     private static void addPerson() {
-        promise = 11;
+        under("promise 11");
         StepPaths x = new StepPaths();
         for (int p = 0; p < 8; p++) {
             due("person " + p, () -> x.addPerson(), p);
@@ -399,7 +327,7 @@ public final class PromiseTest {
     }
 
     private static void addStep() {
-        promise = 12;
+        under("promise 12");
         StepPaths x = graph("K3", "");
         due("first", () -> x.addStep(0, 3, 2, 9), 0);
         due("other way", () -> x.addStep(2, 3, 0, 1), 1);
@@ -429,7 +357,7 @@ public final class PromiseTest {
     }
 
     private static void removeStep() {
-        promise = 13;
+        under("promise 13");
         StepPaths x = ring("a*");
         due("remove", () -> x.removeStep(1), 4);
         due("those behind move", () -> x.find(2, 0, 3), 1);
@@ -450,7 +378,7 @@ public final class PromiseTest {
     }
 
     private static void setCost() {
-        promise = 14;
+        under("promise 14");
         StepPaths x = ring("a*");
         due("set", () -> x.setCost(2, 9), 1);
         due("set again", () -> x.setCost(2, 1), 9);
@@ -467,7 +395,7 @@ public final class PromiseTest {
     }
 
     private static void turn() {
-        promise = 15;
+        under("promise 15");
         StepPaths x = graph("K30a110b211a03", "");
         due("turn", () -> x.turn(1), 2);
         due("there", () -> x.find(2, 1, 0), 1);
@@ -482,7 +410,7 @@ public final class PromiseTest {
     }
 
     private static void exchange() {
-        promise = 16;
+        under("promise 16");
         StepPaths x = ring("a");
         due("exchange", () -> x.exchange(0, 1), 5);
         due("kind of the ring", () -> x.step(0, 1), 1);
@@ -501,7 +429,7 @@ public final class PromiseTest {
     }
 
     private static void take() {
-        promise = 17;
+        under("promise 17");
         StepPaths x = ring("a");
         write(x, "(a|b)*");
         due("take", () -> x.take(), 2);
@@ -528,7 +456,7 @@ public final class PromiseTest {
     }
 
     private static void undo() {
-        promise = 18;
+        under("promise 18");
         StepPaths x = new StepPaths();
         x.addPerson();
         x.addPerson();
@@ -569,7 +497,7 @@ public final class PromiseTest {
     }
 
     private static void cost() {
-        promise = 19;
+        under("promise 19");
         StepPaths x = ring("a*|b");
         due("cheaper around", () -> x.cost(0, 2), 2);
         due("the empty row", () -> x.cost(1, 1), 0);
@@ -595,7 +523,7 @@ public final class PromiseTest {
     }
 
     private static void length() {
-        promise = 20;
+        under("promise 20");
         StepPaths x = ring("a*|b");
         due("around", () -> x.length(0, 2), 2);
         due("the empty row", () -> x.length(1, 1), 0);
@@ -611,7 +539,7 @@ public final class PromiseTest {
     }
 
     private static void pathAt() {
-        promise = 21;
+        under("promise 21");
         StepPaths x = ring("a*|b|AB");
         due("first", () -> x.pathAt(0, 2, 0), 0);
         due("second", () -> x.pathAt(0, 2, 1), 10);
@@ -642,7 +570,7 @@ public final class PromiseTest {
     }
 
     private static void paths() {
-        promise = 22;
+        under("promise 22");
         StepPaths x = ring("(a|.|A)*");
         due("none yet", () -> x.paths(0, 2, 0), 0);
         due("the empty row", () -> x.paths(0, 0, 0), 1);
@@ -660,7 +588,7 @@ public final class PromiseTest {
     }
 
     private static void needed() {
-        promise = 23;
+        under("promise 23");
         due("both", () -> ring("a*").needed(0, 2), 3);
         due("either", () -> ring("a*|b").needed(0, 2), 0);
         due("the empty row", () -> ring("a*").needed(0, 0), 0);
@@ -674,7 +602,7 @@ public final class PromiseTest {
     }
 
     private static void bestNew() {
-        promise = 24;
+        under("promise 24");
         due("the empty row already", () -> ring("a*").bestNew(0, 0), 2);
         due("a cheaper one", () -> ring("a*").bestNew(0, 3), 3);
         due("used twice as another kind", () -> ring("..b").bestNew(0, 3), 13);
@@ -699,7 +627,7 @@ public final class PromiseTest {
     }
 
     private static void follow() {
-        promise = 25;
+        under("promise 25");
         StepPaths x = ring("a*b?c?");
         due("one", () -> x.follow(0, 1, 0L), NONE);
         due("two", () -> x.follow(0, 2, 10L), NONE);
@@ -744,7 +672,7 @@ public final class PromiseTest {
     }
 
     private static void runScript() {
-        promise = 26;
+        under("promise 26");
         script("a*", 1, 12019, NONE);
         script("a*", 2, 12019_12018L, 1);
         script("a*", 1, 12010, 0);
@@ -857,7 +785,7 @@ public final class PromiseTest {
     }
 
     private static void simulate() {
-        promise = 27;
+        under("promise 27");
         StepPaths x = graph("K20a15", "a");
         long[] seeds = {0, 1, -1, 4, Long.MIN_VALUE, Long.MAX_VALUE, 123456789L};
         for (long seed : seeds) {
@@ -875,7 +803,7 @@ public final class PromiseTest {
     }
 
     private static void save() {
-        promise = 28;
+        under("promise 28");
         StepPaths x = ring("a");
         due("slot 0", () -> x.save(0), 5);
         due("slot 1", () -> x.save(1), 5);
@@ -891,7 +819,7 @@ public final class PromiseTest {
     }
 
     private static void restore() {
-        promise = 29;
+        under("promise 29");
         StepPaths x = ring("a*");
         due("slot 2", () -> x.restore(2), INDEX);
         due("slot -1", () -> x.restore(-1), INDEX);
