@@ -27,6 +27,7 @@ public final class BoundaryTest extends Check {
         take();
         undo();
         cost();
+        costsOneAfterAnother();
         length();
         pathAt();
         paths();
@@ -36,6 +37,7 @@ public final class BoundaryTest extends Check {
         followNumbers();
         runScript();
         scriptsThatChange();
+        scriptsForEachStep();
         scriptsThatAsk();
         scriptsOnACopy();
         simulate();
@@ -432,6 +434,27 @@ public final class BoundaryTest extends Check {
             due("down to " + left, () -> all.removeStep(want), want);
         }
         due("none is left", () -> all.removeStep(0), INDEX);
+        for (int s = 0; s < 24; s++) {
+            removedOf24(s);
+        }
+    }
+
+    private static void removedOf24(int removed) {
+        StepPaths before = graph(wideGraph(), "");
+        StepPaths then = graph(wideGraph(), "");
+        for (int s = 0; s < 24; s++) {
+            before.setCost(s, 1 + s % 9);
+            then.setCost(s, 1 + s % 9);
+        }
+        due("without " + removed, () -> then.removeStep(removed), 23);
+        for (int s = 0; s < 23; s++) {
+            for (int what = 0; what < 4; what++) {
+                int one = s;
+                int number = what;
+                due("step " + s + " without " + removed + ", " + what, () -> then.step(one, number),
+                        before.step(s < removed ? s : s + 1, what));
+            }
+        }
     }
 
     private static void setCost() {
@@ -521,6 +544,17 @@ public final class BoundaryTest extends Check {
         due("the length of the longest", () -> longest.about(2), 40);
         due("its last character", () -> longest.patternAt(39), '+');
 
+        StepPaths later = ring("|a");
+        write(later, "bb");
+        later.take();
+        due("the empty row does not fit as before", () -> later.about(4), 0);
+        due("nor does a", () -> later.cost(0, 1), NONE);
+        write(later, "((a)(b))|c*");
+        later.take();
+        write(later, "(b)");
+        later.take();
+        due("nor does what fitted then", () -> later.about(5), 1);
+
         under("17: Keeps the text");
         due("taken again", () -> longest.take(), 20);
         due("its length", () -> longest.clearText(), 40);
@@ -589,6 +623,20 @@ public final class BoundaryTest extends Check {
         due("of one step", () -> ring("b").cost(0, 2), 9);
         due("of twenty letters", () -> graph("K20a19", "aA".repeat(10)).cost(0, 0), 180);
         due("all letters but one are left out", () -> graph("K20a19", "a?".repeat(20)).cost(0, 1), 9);
+    }
+
+    private static void costsOneAfterAnother() {
+        under("19: these and all following methods up to the save slots change nothing");
+        for (int first = 0; first < 16; first++) {
+            for (int second = 0; second < 16; second++) {
+                int one = first;
+                int other = second;
+                StepPaths x = ring("a*|b");
+                x.cost(one / 4, one % 4);
+                due("cost " + other / 4 + " " + other % 4 + " behind cost " + one / 4 + " " + one % 4,
+                        () -> x.cost(other / 4, other % 4), (4 + other % 4 - other / 4) % 4);
+            }
+        }
     }
 
     private static void length() {
@@ -692,10 +740,16 @@ public final class BoundaryTest extends Check {
         due("the largest", () -> graph("K8", "D").bestNew(6, 7), 736);
         due("of the kind 3", () -> graph("K2", "d").bestNew(0, 1), 31);
 
+        for (int p = 0; p < 8; p++) {
+            for (int q = 0; q < 8; q++) {
+                eachKind(p, q);
+            }
+        }
+
         under("24: with the cost 1");
-        due("cheaper than what is there", () -> graph("K20a12", "a|b").bestNew(0, 1), 11);
-        due("as cheap as what is there", () -> graph("K20a11", "a|b").bestNew(0, 1), 10 + 1);
-        due("as cheap, a smaller number", () -> graph("K30a11", "a|b").bestNew(0, 1), 2);
+        due("cheaper than what is there", () -> graph("K30a12", "a|b").bestNew(0, 1), 11);
+        due("as cheap as what is there", () -> graph("K30a11", "a|b").bestNew(0, 1), 2);
+        due("twice the cost 1", () -> graph("K30a111a210b22", "..").bestNew(0, 2), 2);
 
         under("24: that is not there");
         due("the first is there", () -> graph("K20a11", "").bestNew(0, 0), 11);
@@ -715,6 +769,9 @@ public final class BoundaryTest extends Check {
         due("one person", () -> graph("K1", "").bestNew(0, 0), NONE);
         due("one step is not enough", () -> graph("K3", "aa").bestNew(0, 2), NONE);
         due("one step is enough for two goings", () -> graph("K3", "aAa").bestNew(0, 2), 2);
+        due("two steps at once are not tried", () -> graph("K40b111b21", "bcd|bbdd").bestNew(0, 3), NONE);
+        due("it may be gone both ways", () -> graph("K20b11", "b?(a|A)").bestNew(0, 1), 1);
+        due("before a person comes again", () -> graph("K30b11", "a|bB").bestNew(0, 2), 2);
         due("all are there", () -> graph("K20a110b110c110d111a011b011c011d01", ".").bestNew(0, 1), NONE);
 
         under("24: that there may be 24 steps at most does not matter");
@@ -722,6 +779,15 @@ public final class BoundaryTest extends Check {
         due("a 25th", () -> full.bestNew(7, 0), 730);
         due("there are 24 then", () -> full.about(1), 24);
         due("and no path", () -> full.cost(7, 0), NONE);
+    }
+
+    private static void eachKind(int p, int q) {
+        for (int k = 0; k < 4 && p != q; k++) {
+            String forwards = String.valueOf((char) ('a' + k));
+            String backwards = String.valueOf((char) ('A' + k));
+            due(forwards + " " + p + " " + q, () -> graph("K8", forwards).bestNew(p, q), 100 * p + 10 * k + q);
+            due(backwards + " " + p + " " + q, () -> graph("K8", backwards).bestNew(p, q), 100 * q + 10 * k + p);
+        }
     }
 
     private static void follow() {
@@ -885,6 +951,31 @@ public final class BoundaryTest extends Check {
         script("d", 1, 50001L, 0);
     }
 
+    private static void scriptsForEachStep() {
+        under("26: ss and xy are decimal numbers");
+        for (int s = 0; s < 24; s++) {
+            long ss = 100 * s;
+            int p = s % 8;
+            int q = (p + 1 + s / 8) % 8;
+            long there = 1000 * p + 100 * q;
+            long back = 1000 * q + 100 * p;
+            long pair = 10 * p + q;
+            stepScript(2, (20000 + ss) * 100000 + 60099 + there, 1);
+            stepScript(2, (20000 + ss) * 100000 + 60099 + 1000 * q + 100 * ((q + 1 + s / 8) % 8), NONE);
+            stepScript(2, (30004 + ss) * 100000 + 60004 + there, NONE);
+            stepScript(2, (30004 + ss) * 100000 + 60003 + there, 1);
+            stepScript(2, (40000 + ss) * 100000 + 60009 + back, NONE);
+            stepScript(2, (40000 + ss) * 100000 + 60009 + there, 1);
+            stepScript(1, 90000 + ss + pair, NONE);
+            stepScript(1, 90000 + (ss + 100) % 2400 + pair, 0);
+        }
+        stepScript(1, 92407L, 0);
+    }
+
+    private static void stepScript(int n, long commands, long want) {
+        due("script " + commands, () -> graph(wideGraph(), ".").runScript(n, commands), want);
+    }
+
     private static void scriptsThatAsk() {
         under("26: 6 p q x y: succeeds if a path from p to q fits, and the best one costs at most xy");
         script("a*", 1, 60000L, NONE);
@@ -917,6 +1008,7 @@ public final class BoundaryTest extends Check {
         script("c", 1, 80000L, NONE);
         script("c", 1, 80001L, 0);
         script("a*", 1, 80004L, NONE);
+        script("a*", 1, 80003L, NONE);
         script("a*", 1, 80005L, 0);
         script("a*", 1, 83004L, NONE);
         script("a*", 1, 84000L, 0);
@@ -937,6 +1029,13 @@ public final class BoundaryTest extends Check {
         script("a*", 1, 90040L, 0);
         due("step 23", () -> graph(fullGraph(), "d").runScript(1, 92321L), NONE);
         due("step 24", () -> graph(fullGraph(), "d").runScript(1, 92421L), 0);
+
+        under("26: commands with people or steps that do not exist fail");
+        long[] commands = {18001, 10081, 22400, 29900, 32401, 42400, 68099, 60899, 69099, 60999, 78009, 70809, 88000, 89000,
+            90080, 90008, 90090, 92401, 99901};
+        for (long command : commands) {
+            due("command " + command, () -> graph(wideGraph(), ".*").runScript(1, command), 0);
+        }
 
         under("26: and so does any other group");
         for (long d2 = 0; d2 < 10; d2++) {

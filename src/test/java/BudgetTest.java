@@ -1,7 +1,7 @@
 import java.lang.management.ManagementFactory;
 
 // All calls of a run share one room of 7.3 million fields and elements: 512 of the dearest calls must stay far below.
-public final class BudgetTest {
+public final class BudgetTest extends Check {
     private static final int CALLS = 512;
     // A field or an element is at most 8 bytes; a tenth of the room is plenty for this class.
     private static final long MAX_BYTES = 8L * 730_000;
@@ -17,29 +17,8 @@ public final class BudgetTest {
                 .getThreadAllocatedBytes(Thread.currentThread().getId());
     }
 
-    private static void write(StepPaths x, String text) {
-        x.clearText();
-        for (int i = 0; i < text.length(); i++) {
-            x.append(text.charAt(i));
-        }
-    }
-
-    private static String fullGraph() {
-        StringBuilder graph = new StringBuilder("K8");
-        for (int i = 0; i < 24; i++) {
-            int from = i % 8;
-            graph.append(from).append((char) ('a' + i / 8)).append((from + 1 + i / 8) % 8).append('9');
-        }
-        return graph.toString();
-    }
-
     private static StepPaths fullObject() {
-        StepPaths x = new StepPaths();
-        write(x, fullGraph());
-        x.load();
-        write(x, "(.?a?A?b?B?c?C?.?d*a?A?b?B?c?C?.?a?A?D)+");
-        x.take();
-        return x;
+        return graph(wideGraph(), "(.?a?A?b?B?c?C?.?d*a?A?b?B?c?C?.?a?A?D)+");
     }
 
     private static void dear(String name, Call call) {
@@ -62,7 +41,7 @@ public final class BudgetTest {
         dear("errorPosition", (x, i) -> x.errorPosition(i % 2 == 0));
         dear("load", (x, i) -> {
             if (i == 0) {
-                write(x, fullGraph());
+                write(x, wideGraph());
             }
             return x.load();
         });

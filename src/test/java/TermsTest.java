@@ -131,6 +131,12 @@ public final class TermsTest extends Check {
         isPattern("a".repeat(20) + "|A", 21);
         isPattern("a".repeat(20) + "(.", 21);
         isPattern("a".repeat(20) + "*|()+", NONE);
+        for (String ending : new String[] {"*", "+"}) {
+            StepPaths x = graph("K40b111b212b31", "a?".repeat(19) + "b" + ending);
+            due("the 20th, again and again", () -> x.cost(0, 3), 3);
+            due("its going", () -> x.pathAt(0, 3, 2), 20);
+        }
+        due("the 20th behind 19", () -> graph("K20a11", "aA".repeat(9) + "aA").pathAt(0, 0, 19), 1);
 
         under("at most 9 parentheses may be open at one time");
         isPattern("(".repeat(8) + ")".repeat(8), NONE);
@@ -139,6 +145,9 @@ public final class TermsTest extends Check {
         isPattern("(".repeat(9) + ")(" + ")".repeat(9), NONE);
         isPattern("(".repeat(9) + ")((" + ")".repeat(9), 11);
         isPattern("()".repeat(20), NONE);
+        fits("(".repeat(8) + "a(b|c)" + ")".repeat(8), "ab", "ac");
+        fitsNot("(".repeat(8) + "a(b|c)" + ")".repeat(8), "a", "b", "c");
+        fits("(".repeat(8) + "a(bc)+" + ")".repeat(8), "abc", "abcbc");
         due("nine open ones", () -> graph("K20a15", "(".repeat(9) + "a" + ")".repeat(9)).cost(0, 1), 5);
     }
 
@@ -227,6 +236,8 @@ public final class TermsTest extends Check {
         fits("a?a?a", "a", "aa", "aaa");
         fitsNot("a?a?a", "", "aaaa");
         fits("(a|ab)(c|bc)", "ac", "abc", "abbc");
+        fitsNot("(a|ab)(c|bc)", "a", "c", "bc", "aac", "abab", "acc", "cbc");
+        fitsNot("ab(c|d)", "c", "d", "bc", "abcd");
 
         under("a pattern in parentheses if it fits this pattern");
         fits("(ab|c)", "ab", "c");
@@ -358,6 +369,8 @@ public final class TermsTest extends Check {
         under("then the second one, and so on");
         StepPaths second = graph("K41b310a111a312a310a22", "..*");
         due("the second going", () -> second.pathAt(0, 3, 1), 0);
+        due("of two branches the first", () -> graph("K30a111b211c21", "ab|ac").pathAt(0, 2, 1), 10);
+        due("of two branches the second", () -> graph("K30a111c211b21", "ab|ac").pathAt(0, 2, 1), 10);
         StepPaths third = graph("K40a111a212c312b31", "a..");
         due("the third going", () -> third.pathAt(0, 3, 2), 20);
 

@@ -4,23 +4,25 @@ import java.util.function.Function;
 import java.util.function.Supplier;
 import java.util.function.ToLongFunction;
 
-// "A call that throws an exception changes nothing": each refused call is made on objects that are as full, as
-// empty or as busy as they can be; then everything that can be asked of them is compared with a twin without it.
-public final class RefusedTest extends Check {
+// "A call that throws an exception changes nothing", and calls that only ask change nothing either: each is made on
+// objects that are as full, as empty or as busy as they can be; then everything that can be asked of them is compared
+// with what a twin answers that has not had the call.
+public final class UnchangedTest extends Check {
     private static final int LEAST = Integer.MIN_VALUE;
     private static final int MOST = Integer.MAX_VALUE;
 
-    private static final List<Refused> CALLS = new ArrayList<>();
-    private static final List<Function<StepPaths, String>> QUESTIONS = List.of(RefusedTest::state, RefusedTest::paths,
-            RefusedTest::rememberedStates, x -> slot(x, 0), x -> slot(x, 1), RefusedTest::text, RefusedTest::taken,
-            RefusedTest::loaded, RefusedTest::loadedWithOneMore, RefusedTest::takenWithOneMore);
+    private static final List<Call> REFUSED = new ArrayList<>();
+    private static final List<Call> ASKING = new ArrayList<>();
+    private static final List<Function<StepPaths, String>> QUESTIONS = List.of(UnchangedTest::state, UnchangedTest::paths,
+            UnchangedTest::rememberedStates, x -> slot(x, 0), x -> slot(x, 1), UnchangedTest::text, UnchangedTest::taken,
+            UnchangedTest::loaded, UnchangedTest::loadedWithOneMore, UnchangedTest::takenWithOneMore);
 
-    private static final class Refused {
+    private static final class Call {
         final String name;
         final ToLongFunction<StepPaths> call;
         int times = 0;
 
-        Refused(String name, ToLongFunction<StepPaths> call) {
+        Call(String name, ToLongFunction<StepPaths> call) {
             this.name = name;
             this.call = call;
         }
@@ -30,14 +32,15 @@ public final class RefusedTest extends Check {
         callsWithWrongNumbers();
         callsWithWrongPairs();
         callsForTheState();
+        callsThatAsk();
         under("a new object");
         compare(StepPaths::new);
         under("a busy object");
-        compare(RefusedTest::busy);
+        compare(UnchangedTest::busy);
         under("a full object");
-        compare(RefusedTest::full);
+        compare(UnchangedTest::full);
         under("a restored object");
-        compare(RefusedTest::restored);
+        compare(UnchangedTest::restored);
         under("every call above is refused by one of these objects");
         allWereRefused();
         end();
@@ -47,16 +50,23 @@ public final class RefusedTest extends Check {
 
     private static void compare(Supplier<StepPaths> maker) {
         List<String> before = prints(maker, x -> 0);
-        for (Refused refused : CALLS) {
+        for (Call refused : REFUSED) {
             if (answerOf(() -> refused.call.applyAsLong(maker.get())).startsWith("throws.")) {
                 refused.times++;
-                due("all that can be asked after " + refused.name, prints(maker, refused.call).toString(), before.toString());
+                same(maker, refused, before);
             }
+        }
+        for (Call asking : ASKING) {
+            same(maker, asking, before);
         }
     }
 
+    private static void same(Supplier<StepPaths> maker, Call one, List<String> before) {
+        due("all that can be asked after " + one.name, prints(maker, one.call).toString(), before.toString());
+    }
+
     private static void allWereRefused() {
-        for (Refused refused : CALLS) {
+        for (Call refused : REFUSED) {
             due(refused.name + " was refused", refused.times > 0 ? "once or more" : "never", "once or more");
         }
     }
@@ -137,7 +147,7 @@ public final class RefusedTest extends Check {
     // ---- the calls
 
     private static void refused(String name, ToLongFunction<StepPaths> call) {
-        CALLS.add(new Refused(name, call));
+        REFUSED.add(new Call(name, call));
     }
 
     private static void callsWithWrongNumbers() {
@@ -220,6 +230,38 @@ public final class RefusedTest extends Check {
         refused("undo of nothing", x -> x.undo());
         refused("restore of an empty slot 0", x -> x.restore(0));
         refused("restore of an empty slot 1", x -> x.restore(1));
+    }
+
+    private static void asking(String name, ToLongFunction<StepPaths> call) {
+        ASKING.add(new Call(name, call));
+    }
+
+    private static void callsThatAsk() {
+        asking("errorPosition of a pattern", x -> x.errorPosition(true));
+        asking("errorPosition of a graph", x -> x.errorPosition(false));
+        asking("step", x -> x.step(0, 0));
+        asking("find", x -> x.find(0, 0, 1));
+        asking("patternAt", x -> x.patternAt(0));
+        for (int number = 0; number < 8; number++) {
+            int what = number;
+            asking("about " + what, x -> x.about(what));
+        }
+        for (int other = 0; other < 4; other++) {
+            int q = other;
+            asking("person 0 " + q, x -> x.person(0, q));
+            asking("cost 0 " + q, x -> x.cost(0, q));
+            asking("length 0 " + q, x -> x.length(0, q));
+            asking("pathAt 0 " + q, x -> x.pathAt(0, q, 0));
+            asking("paths 0 " + q, x -> x.paths(0, q, q));
+            asking("needed 0 " + q, x -> x.needed(0, q));
+            asking("bestNew 0 " + q, x -> x.bestNew(0, q));
+            asking("follow 0 " + q, x -> x.follow(0, 1, 10L * q));
+        }
+        asking("simulate", x -> x.simulate(7L, 20));
+        long[] scripts = {20000_20000_20000L, 11019_30109_40400L, 50100_50200_50300L, 60199_70109_80000L, 90001_90102_90203L};
+        for (long script : scripts) {
+            asking("runScript " + script, x -> x.runScript(3, script));
+        }
     }
 
     // ---- the objects
