@@ -277,11 +277,11 @@ public final class StepPaths {
     public int follow(int p, int n, long row) throws IndexOutOfBoundsException, IllegalArgumentException {
         require(state.hasPerson(p), NO_SUCH);
         require(n >= 1 && n <= MAX_FOLLOWED, OUT_OF_RANGE);
-        require(row >= 0 && row < power(1000, n), OUT_OF_RANGE);
+        require(row >= 0 && without(row, 3 * n) == 0, OUT_OF_RANGE);
         int here = p;
         int positions = BEGINNING;
         for (int i = 1; i <= n; i++) {
-            int going = group(row, 1000, n - i);
+            int going = (int) (without(row, 3 * (n - i)) % 1000);
             int s = going / 10;
             int direction = going % 10;
             if (!state.hasStep(s) || direction > 1 || state.beginOf(s, direction) != here) {
@@ -300,11 +300,10 @@ public final class StepPaths {
 
     public int runScript(int n, long script) throws IllegalArgumentException {
         require(n >= 1 && n <= MAX_COMMANDS, OUT_OF_RANGE);
-        require(script >= 0 && script < power(100000, n), OUT_OF_RANGE);
+        require(script >= 0 && without(script, 5 * n) == 0, OUT_OF_RANGE);
         draft.copyFrom(state);
         for (int i = 0; i < n; i++) {
-            int command = group(script, 100000, n - 1 - i);
-            if (!changes(command) && !holds(command)) {
+            if (!succeeds((int) (without(script, 5 * (n - 1 - i)) % 100000))) {
                 return i;
             }
         }
@@ -381,21 +380,13 @@ public final class StepPaths {
         return slot >= 0 && slot < SLOTS;
     }
 
-    private static long power(long base, int exponent) {
-        long product = 1;
-        for (int i = 0; i < exponent; i++) {
-            product *= base;
-        }
-        return product;
-    }
-
-    /** The group of digits at a place of a number, the lowest group being at place 0. */
-    private static int group(long number, long base, int place) {
+    /** What is left of a number without so many of its lowest digits. */
+    private static long without(long number, int lowest) {
         long rest = number;
-        for (int i = 0; i < place; i++) {
-            rest /= base;
+        for (int i = 0; i < lowest; i++) {
+            rest /= 10;
         }
-        return (int) (rest % base);
+        return rest;
     }
 
     /**
@@ -444,23 +435,32 @@ public final class StepPaths {
         return trial.between(draft, p, q, 0, limit);
     }
 
-    /** Does one of the commands 1 to 5 to the draft; false if it is none of them or fails. */
-    private boolean changes(int command) {
+    /** Commands see and change the draft alone, so that the state stays as it is. */
+    private boolean succeeds(int command) {
         int d2 = command / 1000 % 10;
         int d3 = command / 100 % 10;
         int d4 = command / 10 % 10;
         int d5 = command % 10;
+        int s = 10 * d2 + d3;
         switch (command / 10000) {
             case 1:
                 return adds(d2, d3, d4, d5);
             case 2:
-                return d4 == 0 && d5 == 0 && removes(10 * d2 + d3);
+                return d4 == 0 && d5 == 0 && removes(s);
             case 3:
-                return d4 == 0 && setsCost(10 * d2 + d3, d5);
+                return d4 == 0 && setsCost(s, d5);
             case 4:
-                return d4 == 0 && d5 == 0 && turns(10 * d2 + d3);
+                return d4 == 0 && d5 == 0 && turns(s);
             case 5:
                 return d4 == 0 && d5 == 0 && exchanges(d2, d3);
+            case 6:
+                return costsAtMost(d2, d3, 10 * d4 + d5);
+            case 7:
+                return d4 == 0 && goesAtMost(d2, d3, d5);
+            case 8:
+                return d3 == 0 && d4 == 0 && reachesAtLeast(d2, d5);
+            case 9:
+                return needsStep(s, d4, d5);
             default:
                 return false;
         }
@@ -506,34 +506,26 @@ public final class StepPaths {
         return true;
     }
 
-    /** Whether what one of the commands 6 to 9 asks for holds in the draft; false for all others. */
-    private boolean holds(int command) {
-        int d2 = command / 1000 % 10;
-        int d3 = command / 100 % 10;
-        int d4 = command / 10 % 10;
-        int d5 = command % 10;
-        switch (command / 10000) {
-            case 6:
-                return draft.hasPeople(d2, d3) && search.between(draft, d2, d3, 0, 10 * d4 + d5 + 1) != NONE;
-            case 7:
-                if (!draft.hasPeople(d2, d3) || d4 != 0) {
-                    return false;
-                }
-                bestPath.aimAt(draft, d3);
-                return bestPath.goesAtMost(d2, d5);
-            case 8:
-                return draft.hasPerson(d2) && d3 == 0 && d4 == 0
-                        && Integer.bitCount(search.peopleFrom(draft, d2)) >= d5;
-            case 9:
-                return draft.hasStep(10 * d2 + d3) && draft.hasPeople(d4, d5)
-                        && needsStep(10 * d2 + d3, d4, d5);
-            default:
-                return false;
+    private boolean costsAtMost(int p, int q, int most) {
+        return draft.hasPeople(p, q) && search.between(draft, p, q, 0, most + 1) != NONE;
+    }
+
+    private boolean goesAtMost(int p, int q, int most) {
+        if (!draft.hasPeople(p, q)) {
+            return false;
         }
+        bestPath.aimAt(draft, q);
+        int goings = bestPath.goingsFrom(p);
+        return goings != NONE && goings <= most;
+    }
+
+    private boolean reachesAtLeast(int p, int least) {
+        return draft.hasPerson(p) && Integer.bitCount(search.peopleFrom(draft, p)) >= least;
     }
 
     private boolean needsStep(int s, int p, int q) {
-        return search.finds(draft, p, q, 0) && !search.finds(draft, p, q, 1 << s);
+        return draft.hasStep(s) && draft.hasPeople(p, q)
+                && search.finds(draft, p, q, 0) && !search.finds(draft, p, q, 1 << s);
     }
 
     /** The text buffer, and what the rules for patterns and graphs say of it. */
@@ -1110,10 +1102,6 @@ public final class StepPaths {
                     }
                 }
             }
-        }
-
-        boolean goesAtMost(int p, int most) {
-            return goingsFrom(p) != NONE && goingsFrom(p) <= most;
         }
 
         int goingsFrom(int p) {

@@ -1,7 +1,7 @@
 import java.util.function.IntToLongFunction;
 
 // Promises 1 to 29, one section each: the smallest and the largest of every argument and answer, what lies
-// one beyond them, and what is empty, full or there already. RefusedTest has what a refused call must leave alone.
+// one beyond them, and what is empty, full or there already. UnchangedTest has what a refused call must leave alone.
 public final class BoundaryTest extends Check {
     private static final int LEAST = Integer.MIN_VALUE;
     private static final int MOST = Integer.MAX_VALUE;

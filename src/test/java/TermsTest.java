@@ -17,6 +17,7 @@ public final class TermsTest extends Check {
         pathsOfRows();
         costsOfPaths();
         bestPaths();
+        goingsOfBestPaths();
         sizesOfTexts();
         headsOfGraphs();
         stepsOfGraphs();
@@ -378,6 +379,39 @@ public final class TermsTest extends Check {
         due("forwards and lower", () -> graph("K20b110a11", "a|b").pathAt(0, 1, 0), 0);
         due("backwards and lower", () -> graph("K21a010a11", "a|A").pathAt(0, 1, 0), 1);
         due("forwards and lower than backwards", () -> graph("K20a111a01", "a|A").pathAt(0, 1, 0), 0);
+
+        under("A path fits if its goings fit the pattern");
+        due("not the lower step of another branch", () -> graph("K30c111b211d21", "ab|cd").pathAt(0, 2, 1), 20);
+        due("nor one of the branch before", () -> graph("K30a111d211b21", "cd|ab").pathAt(0, 2, 1), 20);
+    }
+
+    private static void goingsOfBestPaths() {
+        under("Its cost is that of its goings together, as many as its length tells, one behind the other");
+        for (String pattern : new String[] {"(.|A)*", "(a|b)*(c|C)", "(a.|B?c)+", "(a+b|.c)*D*", ".?.?.?.?.?"}) {
+            for (int pair = 0; pair < 64; pair++) {
+                goingsBetween(pattern, pair / 8, pair % 8);
+            }
+        }
+    }
+
+    private static void goingsBetween(String pattern, int p, int q) {
+        StepPaths x = graph(wideGraph(), pattern);
+        for (int s = 0; s < 24; s++) {
+            x.setCost(s, 1 + 5 * s * s % 9);
+        }
+        String path = pattern + " from " + p + " to " + q;
+        int length = x.length(p, q);
+        int here = length < 0 ? q : p;
+        int cost = length < 0 ? StepPaths.NONE : 0;
+        for (int i = 0; i < length; i++) {
+            int going = x.pathAt(p, q, i);
+            int begin = here;
+            due(path + ", begin of going " + i, () -> x.step(going / 10, 2 * (going % 10)), begin);
+            here = x.step(going / 10, 2 - 2 * (going % 10));
+            cost += x.step(going / 10, 3);
+        }
+        due(path + ", its end", Integer.toString(here), Integer.toString(q));
+        due(path + ", its cost", () -> x.cost(p, q), cost);
     }
 
     // ---- text
